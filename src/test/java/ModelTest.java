@@ -291,7 +291,7 @@ public final class ModelTest {
   private static final class Run {
     final int run;
     final Numbers numbers;
-    final int wildness, things;
+    final int wildness, things, linked;
     final ObjectLoads x = new ObjectLoads();
     final Model m = new Model();
 
@@ -300,6 +300,7 @@ public final class ModelTest {
       numbers = new Numbers(run);
       wildness = 4 + 40 * (run % 3);
       things = 3 + numbers.below(38);
+      linked = things * (1 + numbers.below(8));
     }
 
     int someThing() {
@@ -347,7 +348,7 @@ public final class ModelTest {
       for (int c = 0; c < CALLS; c++) {
         if (c < things) {
           makeThing();
-        } else if (numbers.oneIn(3)) {
+        } else if (c < linked || numbers.oneIn(3)) {
           change();
         } else if (numbers.oneIn(3)) {
           loadSome();
@@ -377,7 +378,7 @@ public final class ModelTest {
         case 2: case 3: due("next", x.next(thing, other), m.set(3, thing, 0, other), thing, other); break;
         case 4: due("hold", x.hold(thing, on), m.set(5, thing, 0, on ? 1 : 0), thing, on ? 1 : 0); break;
         case 5: case 6: copySome(); break;
-        case 7: if (numbers.oneIn(20)) due("clear", x.clear(), m.clear()); else makeThing(); break;
+        case 7: if (numbers.oneIn(60)) due("clear", x.clear(), m.clear()); else makeThing(); break;
         default: due("place", x.place(thing, i, other), m.set(4, thing, i, other), thing, i, other); break;
       }
     }

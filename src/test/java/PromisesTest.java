@@ -636,6 +636,7 @@ public final class PromisesTest {
     x.next(3, 4);
     due("load", x.load(0, false), 5);
     due("one by one", x.way(0, 4), 4);
+    due("nothing is left of the way before", x.way(4, 2), NONE);
     due("not back", x.way(4, 0), NONE);
     due("to itself", x.way(4, 4), 0);
     due("in the middle", x.way(1, 3), 2);
