@@ -898,8 +898,10 @@ public final class EdgesTest {
       due("back from " + n, x.way(n, n - 1), NONE);
       due("back from the last to " + (n - 1), x.way(39, n - 1), NONE);
     }
-    due("on", x.way(0, 39), 39);
-    due("back again", x.way(39, 0), NONE);
+    for (int n = 0; n < 39; n++) {
+      due("on", x.way(0, 39), 39);
+      due("nothing of that way is left: back to " + n, x.way(39, n), NONE);
+    }
   }
 
   private static void wayUnknown() {
